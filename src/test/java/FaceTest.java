@@ -1,0 +1,90 @@
+import java.io.IOException;
+import java.lang.reflect.Constructor;
+import java.lang.reflect.Field;
+import java.lang.reflect.Method;
+import java.lang.reflect.Modifier;
+import java.nio.file.Files;
+import java.nio.file.Path;
+import java.util.Arrays;
+import java.util.TreeSet;
+
+/** The document's public face, no more and no less, and the rules of LANGUAGE.md that a text can show. */
+public final class FaceTest {
+  private static final String[] FACE = {
+    "int set(int, int, int)", "int cls(int, int, int, int)", "int box(int, int)", "int glue(int, int, int, int)",
+    "int kern(int)", "int penalty(int)", "int insert(int, int, boolean)", "int mark(int)", "int run()",
+    "int at(int, int)", "int part(int, int)", "long told(int, int)", "int marked(int, int)", "long now(int)",
+    "int badness(int, int)", "int count(int)", "int check()",
+  };
+
+  private static final String[] FORBIDDEN = {
+    "import ", "package ", "->", "::", "synchronized", "assert ", "finally", "catch", "static {", "Exact(",
+    "hashCode", "equals", "System.", "protected ", "Object ", "[][]",
+  };
+
+  public static void main(String[] args) throws IOException, ReflectiveOperationException {
+    members();
+    nested();
+    text();
+    Due.end();
+  }
+
+  private static void members() throws ReflectiveOperationException {
+    Class<?> c = PageBuilder.class;
+    Due.equal("public final", c.getModifiers() & (Modifier.PUBLIC | Modifier.FINAL), Modifier.PUBLIC | Modifier.FINAL);
+    TreeSet<String> names = new TreeSet<>();
+    TreeSet<String> open = new TreeSet<>();
+    for (Method m : c.getDeclaredMethods()) {
+      if (Modifier.isPublic(m.getModifiers())) {
+        String types = String.join(", ", Arrays.stream(m.getParameterTypes()).map(Class::getName).toList());
+        open.add(m.getReturnType().getName() + " " + m.getName() + "(" + types + ")");
+        names.add(m.getName());
+        Due.equal(m + " is static", Modifier.isStatic(m.getModifiers()) ? 1 : 0, 0);
+      }
+    }
+    same("methods", open, FACE);
+    for (Method m : c.getDeclaredMethods()) {
+      boolean hidden = Modifier.isPrivate(m.getModifiers()) || m.isSynthetic();
+      Due.equal(m + " is open or private", hidden || Modifier.isPublic(m.getModifiers()) ? 1 : 0, 1);
+      Due.equal(m + " bears a name of the face", hidden && names.contains(m.getName()) ? 1 : 0, 0);
+    }
+    for (Field f : c.getDeclaredFields()) {
+      boolean none = f.getName().equals("NONE");
+      Due.equal(f + " is private", none || Modifier.isPrivate(f.getModifiers()) ? 1 : 0, 1);
+      boolean fixed = !Modifier.isStatic(f.getModifiers()) || Modifier.isFinal(f.getModifiers());
+      Due.equal(f + " is no static state", fixed ? 1 : 0, 1);
+    }
+    Due.equal("NONE is a public constant", c.getField("NONE").getInt(null), -1);
+    Constructor<?>[] made = c.getDeclaredConstructors();
+    Due.equal("constructors", made.length, 1);
+    Due.equal("the constructor's arguments", made[0].getParameterCount(), 0);
+    Class<?>[] thrown = c.getMethod("marked", int.class, int.class).getExceptionTypes();
+    Due.equal("marked throws", thrown.length == 1 && thrown[0] == ArrayIndexOutOfBoundsException.class ? 1 : 0, 1);
+  }
+
+  private static void nested() {
+    Class<?>[] inside = PageBuilder.class.getDeclaredClasses();
+    Due.equal("at most twelve classes", inside.length <= 12 ? 1 : 0, 1);
+    for (Class<?> c : inside) {
+      int m = c.getModifiers();
+      Due.equal(c + " is static", Modifier.isStatic(m) ? 1 : 0, 1);
+      Due.equal(c + " is hidden", Modifier.isPublic(m) || Modifier.isProtected(m) ? 1 : 0, 0);
+      Due.equal(c + " has at most twenty fields", c.getDeclaredFields().length <= 20 ? 1 : 0, 1);
+    }
+  }
+
+  private static void same(String what, TreeSet<String> got, String[] want) {
+    TreeSet<String> due = new TreeSet<>(Arrays.asList(want));
+    if (!got.equals(due)) {
+      System.out.println(what + ": " + got + ", due are " + due);
+    }
+    Due.equal(what + " are the document's", got.equals(due) ? 1 : 0, 1);
+  }
+
+  private static void text() throws IOException {
+    String text = Files.readString(Path.of("src/main/java/PageBuilder.java"));
+    for (String word : FORBIDDEN) {
+      Due.equal("the text has '" + word + "'", text.contains(word) ? 1 : 0, 0);
+    }
+  }
+}
