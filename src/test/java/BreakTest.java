@@ -14,6 +14,7 @@ public final class BreakTest {
     forcedBreakOnAFullPage();
     whatIsBehindGoesBack();
     sixtyPages();
+    glueOfTheLastBreakStays();
     Due.end();
   }
 
@@ -270,5 +271,26 @@ public final class BreakTest {
     Due.equal("sixty: check()", x.check(), 1);
     Due.equal("sixty: set", x.set(7, 0, 0), 1);
     Due.equal("sixty: the empty page begins anew", x.now(2), 7);
+  }
+
+  /** Glue and kern at a break do not go with it: they wait for the next page, which takes nothing more. */
+  private static void glueOfTheLastBreakStays() {
+    for (int kerns = 0; kerns < 2; kerns++) {
+      PageBuilder x = new PageBuilder();
+      x.set(0, 0, 0);
+      for (int i = 0; i < 61; i++) {
+        x.box(10, 0);
+        if (kerns == 1) {
+          x.kern(1);
+        }
+        x.glue(1, 0, 0, 0);
+      }
+      Due.equal("glue stays: run()", x.run(), 60);
+      int each = 2 + kerns;
+      Due.items("glue stays", x, 59, 59 * each);
+      Due.equal("glue stays: how many in the line", x.now(11), each + 1 + kerns);
+      Due.equal("glue stays: the first", x.now(12), 59 * each + 1);
+      Due.equal("glue stays: check()", x.check(), 1);
+    }
   }
 }

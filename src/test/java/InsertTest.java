@@ -60,6 +60,11 @@ public final class InsertTest {
     Due.equal("factor: run()", x.run(), 1);
     Due.parts("factor", x, 0, 0, 0, 30);
     Due.equal("factor: what stands", x.told(0, 11), 30);
+    Due.now("factor: 8 are left, at the next page's front", x, 1, 0, 88);
+    x = new PageBuilder();
+    x.set(1000000, 0, 0);
+    x.cls(1000000, 2000, 0, 7);
+    after("great lengths", x, 1000000, true, 0, 7);
     x = begun(1000, 700, 0, 7);
     after("cut toward 0: 64 by 700 is 44", x, 100, true, 56, 7);
     Due.equal("one more is held", x.insert(0, 1, true), 3);
@@ -76,7 +81,15 @@ public final class InsertTest {
     x = begun(1000, 1, 0, 7);
     x.box(1000, 0);
     after("less than 1 is nothing, however full", x, 999, false, 100, 0);
-    after("1 is too much; a full page cuts nothing", x, 1000, true, 100, 7);
+    after("1 is too much", x, 1000, true, 100, 7);
+    x = begun(10000, 1, 0, 7);
+    x.box(45, 0);
+    x.glue(0, 0, 0, 0);
+    x.kern(10);
+    after("a full page cuts nothing", x, 1000, true, 100, 7);
+    x.penalty(-10000);
+    x.run();
+    Due.equal("nothing of it stands", x.told(0, 11), 0);
     x = begun(5, 0, 0, 7);
     after("room alone bounds the part", x, 6, true, 100, 7);
     x.penalty(-10000);
