@@ -1,17 +1,43 @@
 /** What the tests share: each answer against the one that is due, and the exit code of all of them. */
 final class Due {
+  static final long AWFUL = 1073741823L;
+  /** Of now(9): the same number stands for a page that has no COST yet. */
+  static final long NO_COST = 1073741823L;
+  static final long BAD = 100000L;
+
   private static int wrong = 0;
   private static int asked = 0;
+  private static String promise = "";
 
   private Due() {
+  }
+
+  /** The promise that the answers from here on show, and the words of the document that they hold to. */
+  static void of(int number, String sentence) {
+    promise = "promise " + number + " (" + sentence + "): ";
+  }
+
+  static void ofAll(String sentence) {
+    promise = "promises 1 to 18 (" + sentence + "): ";
   }
 
   static void equal(String call, long got, long want) {
     asked++;
     if (got != want) {
-      wrong++;
-      System.out.println(call + " answered " + got + ", due is " + want);
+      report(call + " answered " + got + ", due is " + want);
     }
+    if (promise.isEmpty()) {
+      report(call + " names no promise");
+    }
+  }
+
+  static void isTrue(String what, boolean is) {
+    equal(what, is ? 1 : 0, 1);
+  }
+
+  private static void report(String text) {
+    wrong++;
+    System.out.println(promise + text);
   }
 
   /** now(0), now(1) .. against the row; shorter rows leave the rest unasked. */
@@ -48,14 +74,15 @@ final class Due {
     equal(name + ": marked(" + page + ", 2)", x.marked(page, 2), bottom);
   }
 
+  /** The very exception of the document: neither a class above it nor one below. */
   static void noMark(String name, PageBuilder x, int page, int which) {
     boolean thrown = false;
     try {
       x.marked(page, which);
-    } catch (ArrayIndexOutOfBoundsException e) {
-      thrown = true;
+    } catch (RuntimeException e) {
+      thrown = e.getClass() == ArrayIndexOutOfBoundsException.class;
     }
-    equal(name + ": marked(" + page + ", " + which + ") throws", thrown ? 1 : 0, 1);
+    isTrue(name + ": marked(" + page + ", " + which + ") throws", thrown);
   }
 
   static void end() {

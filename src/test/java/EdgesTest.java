@@ -19,6 +19,7 @@ public final class EdgesTest {
   }
 
   public static void main(String[] args) {
+    Due.ofAll("the model answers the same");
     for (int run = 0; run < 2000; run++) {
       EdgesTest test = new EdgesTest(run);
       for (int call = 0; call < 512; call++) {

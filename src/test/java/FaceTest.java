@@ -23,6 +23,7 @@ public final class FaceTest {
   };
 
   public static void main(String[] args) throws IOException, ReflectiveOperationException {
+    Due.ofAll("the face, and LANGUAGE.md");
     members();
     nested();
     text();

@@ -25,6 +25,7 @@ public final class ModelTest {
   }
 
   public static void main(String[] args) {
+    Due.ofAll("the model answers the same");
     for (int run = 0; run < RUNS; run++) {
       new ModelTest(run).play();
     }

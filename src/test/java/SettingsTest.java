@@ -1,115 +1,95 @@
-/** Promises 1 to 3: a new object, set and cls. */
+/** Promise 2: which pages a set reaches. Its ranges are in RangesTest. */
 public final class SettingsTest {
-  private static final long NO_COST = 1073741823L;
-
   public static void main(String[] args) {
-    newObject();
-    setRanges();
-    setOnAnEmptyPage();
-    setOnAPageWithAnItem();
-    classRanges();
-    classesAreFour();
+    onAnEmptyPage();
+    againOnAnEmptyPage();
+    onAPageWithOneItem();
+    whileItemsWait();
+    asAPageEnds();
     Due.end();
   }
 
-  private static void newObject() {
-    PageBuilder x = new PageBuilder();
-    Due.equal("NONE", PageBuilder.NONE, -1);
-    for (int what = 0; what < 3; what++) {
-      Due.equal("new: count(" + what + ")", x.count(what), 0);
-    }
-    Due.now("new", x, 0, 0, 1000, 0, 0, 0, 0, 0, 0, NO_COST, 0, 0, -1, 0);
-    Due.equal("new: run()", x.run(), 0);
-    Due.equal("new: check()", x.check(), 1);
-    Due.equal("new: told(0, 0)", x.told(0, 0), -1);
-    Due.equal("new: at(0, 0)", x.at(0, 0), -1);
-    Due.equal("new: part(0, 0)", x.part(0, 0), 0);
-    Due.equal("new: insert of no class", x.insert(0, 5, true), -1);
-    Due.noMark("new", x, 0, 0);
-    x.box(10, 4);
-    x.run();
-    Due.now("new: the greatest depth is 0, TOP is 0", x, 1, 14, 1000, 0);
-  }
-
-  private static void setRanges() {
-    PageBuilder x = new PageBuilder();
-    int most = 10000000;
-    Due.equal("set: least", x.set(0, 0, 0), 1);
-    Due.equal("set: goal 0", x.now(2), 0);
-    Due.equal("set: greatest", x.set(most, most, most), 1);
-    int[] outside = {-1, most + 1, Integer.MIN_VALUE, Integer.MAX_VALUE};
-    for (int v : outside) {
-      Due.equal("set: goal " + v, x.set(v, 1, 1), -2);
-      Due.equal("set: depth " + v, x.set(1, v, 1), -2);
-      Due.equal("set: top " + v, x.set(1, 1, v), -2);
-    }
-    Due.equal("set: a refusal changes nothing", x.now(2), most);
-    x.box(1000000, 1000000);
-    x.run();
-    Due.now("set: nor depth and top", x, 1, most, most, 1000000);
-  }
-
-  private static void setOnAnEmptyPage() {
+  private static void onAnEmptyPage() {
+    Due.of(2, "A page with no item on it yet begins anew with them");
     PageBuilder x = new PageBuilder();
     x.glue(5, 5, 0, 5);
     x.penalty(3);
+    x.kern(4);
     x.run();
-    Due.equal("set: what went leaves the page empty", x.set(100, 2, 30), 1);
-    Due.now("set: empty page", x, 0, 0, 100, 0);
+    Due.equal("what went leaves the page empty: set", x.set(100, 2, 30), 1);
+    Due.now("empty page", x, 0, 0, 100, 0);
     x.box(20, 5);
     x.run();
-    Due.now("set: first box", x, 1, 33, 100, 2);
+    Due.now("first box", x, 1, 33, 100, 2);
     x.box(20, 1);
     x.run();
-    Due.now("set: TOP is for the first box alone", x, 2, 55, 100, 1);
+    Due.now("TOP is for the first box alone", x, 2, 55, 100, 1);
   }
 
-  private static void setOnAPageWithAnItem() {
+  private static void againOnAnEmptyPage() {
+    Due.of(2, "A page with no item on it yet begins anew with them: the last set counts");
     PageBuilder x = new PageBuilder();
-    x.set(100, 0, 50);
-    x.mark(7);
+    Due.equal("set", x.set(100, 2, 30), 1);
+    Due.equal("set", x.set(200, 4, 25), 1);
+    Due.equal("set to the same", x.set(200, 4, 25), 1);
+    x.box(20, 9);
     x.run();
-    Due.equal("set: page with a mark", x.set(200, 5, 70), 1);
-    x.box(10, 20);
-    x.run();
-    Due.now("set: the page goes on as it began", x, 2, 70, 100, 0);
-    x.penalty(-10000);
-    x.box(10, 20);
-    Due.equal("set: run()", x.run(), 1);
-    Due.now("set: the next begins with it", x, 1, 85, 200, 5);
+    Due.now("the last", x, 1, 30, 200, 4);
   }
 
-  private static void classRanges() {
-    PageBuilder x = new PageBuilder();
-    int[] most = {10000000, 2000, 10000, 10000};
-    int[] edges = {-1, Integer.MIN_VALUE, Integer.MAX_VALUE};
-    for (int field = 0; field < 4; field++) {
-      for (int edge : edges) {
-        Due.equal("cls: field " + field + " is " + edge, oneOff(x, field, edge), -2);
+  /** One item of each kind that can be alone on a page: mark, insert and box. */
+  private static void onAPageWithOneItem() {
+    Due.of(2, "of pages that begin from now on: not of one that has an item");
+    for (int kind = 0; kind < 3; kind++) {
+      PageBuilder x = new PageBuilder();
+      x.set(100, 0, 50);
+      x.cls(100, 1000, 0, 0);
+      if (kind == 0) {
+        x.mark(7);
+      } else if (kind == 1) {
+        x.insert(0, 10, false);
+      } else {
+        x.box(10, 0);
       }
-      Due.equal("cls: field " + field + " too great", oneOff(x, field, most[field] + 1), -2);
+      x.run();
+      Due.equal("one item is on it", x.now(0), 1);
+      Due.equal("set", x.set(200, 5, 70), 1);
+      Due.equal("GOAL is as it was", x.now(2), kind == 1 ? 90 : 100);
+      x.box(10, 20);
+      x.run();
+      Due.now("so are TOP and DEPTH", x, 2, kind == 2 ? 80 : 70, kind == 1 ? 90 : 100, 0);
+      x.penalty(-10000);
+      x.box(10, 20);
+      Due.equal("run()", x.run(), 1);
+      Due.now("the next begins with it", x, 1, 85, 200, 5);
     }
-    Due.equal("cls: refusals make none", x.count(1), 0);
-    Due.equal("cls: least", x.cls(0, 0, 0, 0), 0);
-    Due.equal("cls: greatest", x.cls(most[0], most[1], most[2], most[3]), 1);
-    Due.equal("cls: count", x.count(1), 2);
   }
 
-  private static int oneOff(PageBuilder x, int field, int value) {
-    int[] v = {1, 1, 1, 1};
-    v[field] = value;
-    return x.cls(v[0], v[1], v[2], v[3]);
-  }
-
-  private static void classesAreFour() {
+  private static void whileItemsWait() {
+    Due.of(2, "A page with no item on it yet begins anew with them: those in the line are not on it");
     PageBuilder x = new PageBuilder();
-    for (int i = 0; i < 4; i++) {
-      Due.equal("cls: number", x.cls(1, 1, 1, 1), i);
-    }
-    Due.equal("cls: a fifth", x.cls(1, 1, 1, 1), -4);
-    Due.equal("cls: outside a range comes first", x.cls(-1, 1, 1, 1), -2);
-    Due.equal("cls: count of four", x.count(1), 4);
-    Due.equal("cls: the last one is known", x.insert(3, 1, true), 0);
-    Due.equal("cls: one behind is not", x.insert(4, 1, true), -1);
+    x.box(10, 20);
+    x.box(10, 20);
+    Due.equal("set", x.set(300, 7, 15), 1);
+    Due.equal("GOAL", x.now(2), 300);
+    x.run();
+    Due.now("both boxes", x, 2, 58, 300, 7);
+  }
+
+  private static void asAPageEnds() {
+    Due.of(2, "of pages that begin from now on: one that begins before is as it was");
+    PageBuilder x = new PageBuilder();
+    x.set(100, 0, 0);
+    x.box(10, 0);
+    x.penalty(-10000);
+    x.box(10, 0);
+    x.run();
+    Due.equal("set", x.set(50, 0, 0), 1);
+    Due.equal("the page that is made", x.now(2), 100);
+    Due.equal("the page that ended", x.told(0, 2), 100);
+    x.penalty(-10000);
+    x.run();
+    Due.equal("the next one, empty", x.now(2), 50);
+    Due.equal("the second", x.told(1, 2), 100);
   }
 }
