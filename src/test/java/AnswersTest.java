@@ -87,5 +87,9 @@ public final class AnswersTest {
     for (int[] row : rows) {
       Due.equal("badness(" + row[0] + ", " + row[1] + ")", x.badness(row[0], row[1]), row[2]);
     }
+    Due.of(16, "r r r and 131072 by 262144, cut: the nearest number to r r r by 262144");
+    for (int r = 0; r <= 1290; r++) {
+      Due.equal("r " + r, x.badness(r, 297), Math.round(Math.pow(r, 3) / 262144));
+    }
   }
 }

@@ -95,7 +95,9 @@ public final class InsertTest {
     after("by 0", tooFull(1000000, 0), 1000000, false, 100, 0);
     Due.of(10, "(or is 0), and not more than its ROOM");
     after("999 by 1, room 998", tooFull(998, 1), 999, false, 100, 7);
-    after("999 by 1, room 998, cut: FREE is less than nothing", tooFull(998, 1), 999, true, 100, 7);
+    PageBuilder x = tooFull(998, 1);
+    after("999 by 1, room 998, FREE is less than nothing", x, 999, true, 100, 7);
+    stands("a factor of 1 is none of 0", x, 0);
   }
 
   private static void room() {

@@ -256,22 +256,33 @@ public final class PageEndTest {
   private static void theNextPageBegins() {
     Due.of(10, "The next page begins at once, EMPTY");
     PageBuilder x = new PageBuilder();
-    x.set(100, 5, 0);
-    x.cls(10, 1000, 7, 30);
+    x.set(1000, 5, 0);
+    for (int cls = 0; cls < 4; cls++) {
+      x.cls(10 + cls, 1000, 1 + cls, 30);
+    }
     x.box(20, 3);
-    x.insert(0, 9, true);
-    for (int order = 0; order < 4; order++) {
-      x.glue(1, 2, order, 3);
+    for (int i = 0; i < 4; i++) {
+      x.insert(i, 12 + i, true);
+      x.glue(1, 2 + i, i, 3);
     }
     x.box(20, 3);
     x.penalty(-10000);
+    x.kern(0);
     Due.equal("run()", x.run(), 1);
-    Due.now("empty", x, 0, 0, 100, 0, 0, 0, 0, 0, 0, Due.NO_COST, 0, 0, -1, 0);
+    Due.of(13, "stretch of orders 0 .. 3 (4 .. 7), what stands of the inserts of class 0 .. 3 (11 .. 14)");
+    Due.told("each order and class", x, 0, 10, 47, 944, 3, 2, 3, 4, 5, 12, -10000, -10000, 10, 11, 12, 13);
+    Due.of(10, "The next page begins at once, EMPTY: each class has its SKIP and ROOM anew, none is held");
+    Due.now("2 of each class", x, 4, 0, 982, 0, 0, 0, 0, 0, 0, Due.NO_COST, 0, 0, -1, 0);
+    for (int i = 0; i < 4; i++) {
+      x.insert(i, 8 + i, false);
+    }
     x.box(1, 0);
-    x.insert(0, 10, true);
+    x.run();
+    Due.now("as much as there is room", x, 9, 1, 944, 0, 0, 0, 0, 0, 0, Due.NO_COST, 0, 0, -1, 0);
     x.penalty(-10000);
     Due.equal("run()", x.run(), 1);
-    Due.told("room and skip are anew", x, 1, 2, 1, 83, 0, 0, 0, 0, 0, 0, -10000, -10000, 10, 0, 0, 0);
+    Due.told("the second", x, 1, 9, 1, 944, 0, 0, 0, 0, 0, 0, -10000, -10000, 10, 11, 12, 13);
+    Due.now("empty", x, 0, 0, 1000, 0, 0, 0, 0, 0, 0, Due.NO_COST, 0, 0, -1, 0);
   }
 
   private static void marksOfPages() {

@@ -30,6 +30,7 @@ public final class RefusalTest {
       x -> x.kern(7), x -> x.run(), x -> x.set(90, 1, 20), x -> x.box(95, 0), x -> x.penalty(-10000), x -> x.run());
 
   public static void main(String[] args) {
+    statesAreAsNamed();
     for (State state : states()) {
       List<Named> calls = new ArrayList<>(questions());
       calls.addAll(outside());
@@ -38,6 +39,22 @@ public final class RefusalTest {
       compare(state, MORE_CALLS, calls);
     }
     Due.end();
+  }
+
+  /** A state in which little has happened would show little. */
+  private static void statesAreAsNamed() {
+    Due.of(10, "the states of this test");
+    int[] pages = {0, 0, 0, 1, 3, 0, 2, 60};
+    int[] waiting = {0, 7, 1, 0, 0, 400, 0, 3};
+    List<State> states = states();
+    for (int i = 0; i < pages.length; i++) {
+      PageBuilder x = new PageBuilder();
+      for (Call call : states.get(i).calls) {
+        call.on(x);
+      }
+      Due.equal(states.get(i).name + ": pages", x.count(2), pages[i]);
+      Due.equal(states.get(i).name + ": in the line", x.now(11), waiting[i]);
+    }
   }
 
   private static void compare(State state, List<Call> behind, List<Named> calls) {
