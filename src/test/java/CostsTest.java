@@ -66,11 +66,11 @@ public final class CostsTest {
     cost("below 0", page(0, -100, 100, 0, 0), 7, 107);
     Due.of(10, "less than the GOAL by more than 7230584: the BADNESS of great lengths");
     PageBuilder x = page(7230594, 10, 1000000, 0, 0);
-    x.glue(0, 664716, 0, 0);
-    cost("7230584 by 1664716", x, 0, 8170);
+    x.glue(0, 664981, 0, 0);
+    cost("7230584 by 1664981", x, 0, 8170);
     x = page(7230595, 10, 1000000, 0, 0);
-    x.glue(0, 664716, 0, 0);
-    cost("7230585 by 1664716", x, 0, 8189);
+    x.glue(0, 664981, 0, 0);
+    cost("7230585 by 1664981", x, 0, 8189);
   }
 
   private static void badnessBelowTenThousand() {

@@ -4,6 +4,8 @@ final class Due {
   /** Of now(9): the same number stands for a page that has no COST yet. */
   static final long NO_COST = 1073741823L;
   static final long BAD = 100000L;
+  /** Of a class that answers wrongly all along, more lines would show no more. */
+  private static final int MOST_REPORTS = 200;
 
   private static int wrong = 0;
   private static int asked = 0;
@@ -37,7 +39,9 @@ final class Due {
 
   private static void report(String text) {
     wrong++;
-    System.out.println(promise + text);
+    if (wrong <= MOST_REPORTS) {
+      System.out.println(promise + text);
+    }
   }
 
   /** now(0), now(1) .. against the row; shorter rows leave the rest unasked. */

@@ -6,6 +6,7 @@ import java.lang.reflect.Modifier;
 import java.nio.file.Files;
 import java.nio.file.Path;
 import java.util.Arrays;
+import java.util.List;
 import java.util.TreeSet;
 
 /** The document's public face, no more and no less, and the rules of LANGUAGE.md that a text can show. */
@@ -19,14 +20,22 @@ public final class FaceTest {
 
   private static final String[] FORBIDDEN = {
     "import ", "package ", "->", "::", "synchronized", "assert ", "finally", "catch", "static {", "Exact(",
-    "hashCode", "equals", "System.", "protected ", "Object ", "[][]",
+    "hashCode", "equals", "toString", "System.", "protected ", "Object ", "[][]", "while (true)", "for (;;)",
+    "native ", "volatile ", "double ", "float ", "@",
   };
+  private static final Path MAIN = Path.of("src/main/java/PageBuilder.java");
+  private static final String HEAD_OF_METHOD = "( {4}| {8})\\w[^=;]*\\).* \\{";
+  private static final String HEAD_OF_BLOCK = " +(if|for|while|switch|else)\\b.*";
+  private static final int MOST_LINES = 60;
+  private static final int MOST_PARAMETERS = 7;
 
   public static void main(String[] args) throws IOException, ReflectiveOperationException {
     Due.ofAll("the face, and LANGUAGE.md");
     members();
     nested();
     text();
+    throwsInMarkedAlone();
+    shortMethods();
     Due.end();
   }
 
@@ -59,8 +68,14 @@ public final class FaceTest {
     Constructor<?>[] made = c.getDeclaredConstructors();
     Due.equal("constructors", made.length, 1);
     Due.equal("the constructor's arguments", made[0].getParameterCount(), 0);
-    Class<?>[] thrown = c.getMethod("marked", int.class, int.class).getExceptionTypes();
-    Due.equal("marked throws", thrown.length == 1 && thrown[0] == ArrayIndexOutOfBoundsException.class ? 1 : 0, 1);
+    Due.isTrue("the constructor is public", Modifier.isPublic(made[0].getModifiers()));
+    Due.equal("the constructor throws nothing", made[0].getExceptionTypes().length, 0);
+    for (Method m : c.getDeclaredMethods()) {
+      List<Class<?>> thrown = List.of(m.getExceptionTypes());
+      boolean marked = m.getName().equals("marked");
+      List<Class<?>> due = marked ? List.of(ArrayIndexOutOfBoundsException.class) : List.of();
+      Due.isTrue(m + " declares what the document says", thrown.equals(due));
+    }
   }
 
   private static void nested() {
@@ -71,6 +86,14 @@ public final class FaceTest {
       Due.equal(c + " is static", Modifier.isStatic(m) ? 1 : 0, 1);
       Due.equal(c + " is hidden", Modifier.isPublic(m) || Modifier.isProtected(m) ? 1 : 0, 0);
       Due.equal(c + " has at most twenty fields", c.getDeclaredFields().length <= 20 ? 1 : 0, 1);
+      for (Method method : c.getDeclaredMethods()) {
+        boolean face = Arrays.stream(FACE).anyMatch(line -> line.contains(" " + method.getName() + "("));
+        Due.isTrue(method + " has no name of the face", !face);
+        Due.isTrue(method + " has few parameters", method.getParameterCount() <= MOST_PARAMETERS);
+      }
+      for (Constructor<?> made : c.getDeclaredConstructors()) {
+        Due.isTrue(made + " has few parameters", made.getParameterCount() <= MOST_PARAMETERS);
+      }
     }
   }
 
@@ -82,10 +105,43 @@ public final class FaceTest {
     Due.equal(what + " are the document's", got.equals(due) ? 1 : 0, 1);
   }
 
+  /** Without its comments, which may have any words. */
+  private static String code() throws IOException {
+    return Files.readString(MAIN).replaceAll("(?s)/\\*.*?\\*/", "").replaceAll("//[^\n]*", "");
+  }
+
   private static void text() throws IOException {
-    String text = Files.readString(Path.of("src/main/java/PageBuilder.java"));
     for (String word : FORBIDDEN) {
-      Due.equal("the text has '" + word + "'", text.contains(word) ? 1 : 0, 0);
+      Due.equal("the text has '" + word + "'", code().contains(word) ? 1 : 0, 0);
     }
+    Due.isTrue("characters 0 to 127", Files.readString(MAIN).chars().allMatch(c -> c < 128));
+  }
+
+  private static void throwsInMarkedAlone() throws IOException {
+    Due.of(14, "ArrayIndexOutOfBounds: there is no such page or which; no other call throws");
+    String code = code();
+    int at = code.indexOf("throw new ");
+    Due.isTrue("one throws", at > code.indexOf("int marked(") && at < code.indexOf("long now("));
+    Due.equal("no other does", code.indexOf("throw new ", at + 1), -1);
+  }
+
+  /** A method begins with a line that ends with an opening brace, and ends with the first brace so far to the right. */
+  private static void shortMethods() throws IOException {
+    Due.ofAll("LANGUAGE.md: methods stay short");
+    String[] lines = Files.readString(MAIN).split("\n");
+    int methods = 0;
+    for (int from = 0; from < lines.length; from++) {
+      if (!lines[from].matches(HEAD_OF_METHOD) || lines[from].matches(HEAD_OF_BLOCK)) {
+        continue;
+      }
+      String closes = lines[from].replaceAll("\\S.*", "") + "}";
+      int to = from;
+      while (to < lines.length && !lines[to].equals(closes)) {
+        to++;
+      }
+      methods++;
+      Due.isTrue(lines[from].trim() + " has few lines", to - from < MOST_LINES);
+    }
+    Due.isTrue("methods are found: " + methods, methods >= FACE.length + 1);
   }
 }

@@ -12,6 +12,7 @@ public final class PlacesTest {
     lastKernBehindABox();
     kernBeforeEachKind();
     glueBehindEachKind();
+    priceOfGlueAndKern();
     penaltiesThatArePlaces();
     otherKindsAreNoPlaces();
     glueThatIsToldLater();
@@ -159,6 +160,20 @@ public final class PlacesTest {
       Due.equal("now(0)", x.now(0), 4);
       Due.equal("COST", x.now(9), kind == 'g' ? Due.BAD : Due.NO_COST);
     }
+    Due.of(10, "a kern behind which glue stands: right behind it, not further on in the line");
+    PageBuilder x = begun();
+    x.kern(0);
+    x.penalty(10000);
+    x.glue(0, 0, 0, 0);
+    x.run();
+    Due.equal("penalty between", x.now(9), Due.NO_COST);
+    x = begun();
+    x.box(90, 0);
+    x.kern(-50);
+    x.kern(50);
+    x.glue(0, 0, 0, 0);
+    x.run();
+    Due.now("a kern between: no place is where the page is full", x, 5, 100, 100, 0, 0, 0, 0, 0, 0, Due.BAD);
   }
 
   private static void glueBehindEachKind() {
@@ -177,18 +192,31 @@ public final class PlacesTest {
       x.run();
       Due.equal("COST", x.now(9), "bim".indexOf(kind) >= 0 ? Due.BAD : Due.NO_COST);
     }
-    Due.of(10, "its PRICE is 0");
-    PageBuilder x = begun();
-    x.box(90, 0);
-    x.glue(0, 0, 0, 0);
-    x.run();
-    Due.equal("of glue: COST", x.now(9), 0);
-    x = begun();
-    x.box(90, 0);
-    x.kern(0);
-    x.glue(0, 0, 0, 0);
-    x.run();
-    Due.equal("of kern: COST", x.now(9), 0);
+  }
+
+  /** At a place of glue or kern neither's length is a price; the page is full there, so that its badness is 0. */
+  private static void priceOfGlueAndKern() {
+    for (int length : new int[] {-1000000, -10000, -37, 0, 37, 9999}) {
+      for (int kerns = 0; kerns < 2; kerns++) {
+        String name = (kerns == 1 ? "kern " : "glue ") + length;
+        PageBuilder x = begun();
+        x.box(90, 0);
+        if (kerns == 1) {
+          x.kern(length);
+        }
+        x.glue(kerns == 1 ? 5 : length, 8, 0, 3);
+        Due.of(10, "its PRICE is 0");
+        Due.equal(name + ": run()", x.run(), 0);
+        Due.equal(name + ": COST", x.now(9), 0);
+        x.box(1000000, 0);
+        x.box(1000000, 0);
+        x.penalty(0);
+        Due.equal(name + ": run()", x.run(), 2);
+        Due.items(name, x, 0, 0, 1);
+        Due.of(13, "the price there: of glue and kern 0");
+        Due.told(name, x, 0, 2, 100, 100, 0, 0, 0, 0, 0, 0, 0, 0);
+      }
+    }
   }
 
   private static void penaltiesThatArePlaces() {

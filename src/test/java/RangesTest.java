@@ -299,8 +299,11 @@ public final class RangesTest {
     Due.equal("badness(7230584, 1663496)", x.badness(7230584, 1663496), 8189);
     Due.equal("badness(7230585, 1663497)", x.badness(7230585, 1663497), 8189);
     Due.equal("badness(7230585, 1663496)", x.badness(7230585, 1663496), 10000);
-    Due.equal("297 t by s, of 7230584", x.badness(7230584, 1664716), 8170);
-    Due.equal("t by (s by 297), of 7230585", x.badness(7230585, 1664716), 8189);
+    Due.equal("297 t by s is 1289, t by (s by 297) is not", x.badness(7230584, 1664981), 8170);
+    Due.equal("t by (s by 297) is 1290, 297 t by s is not", x.badness(7230585, 1664981), 8189);
+    Due.equal("t by (s by 297) is 1000, 297 t by s is not", x.badness(10000000, 2970296), 3815);
+    Due.equal("t by (s by 297) is 999: t is 1 less", x.badness(9999999, 2970296), 3803);
+    Due.equal("t by (s by 297) is 999: s is 1 more", x.badness(10000000, 2970297), 3803);
     Due.of(16, "10000, when r is above 1290");
     Due.equal("badness(1290, 297)", x.badness(1290, 297), 8189);
     Due.equal("badness(1291, 297)", x.badness(1291, 297), 10000);
